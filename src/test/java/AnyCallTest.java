@@ -8,6 +8,16 @@ public final class AnyCallTest {
     private static final int RUNS = 3000;
     private static final int CALLS = 512;
     private static final int THROWN = Integer.MIN_VALUE;
+    // Octets are given more often than all else: frames want several.
+    private static final int[] LATER = {
+        0, 1, 2, 3, 3, 3, 4, 5, 5, 6, 6, 6, 6, 6, 6, 6, 6, 6, 6, 6, 6, 6, 7, 7, 8, 8, 9, 10, 11, 11, 12, 12};
+    private static final byte[] OCTETS = {1, 2, 3, 6, 6, (byte) 176, (byte) 176, -1, 0};
+    // For each kind of call the ends of its arguments' ranges, as most calls have them.
+    private static final int[][] SENSIBLE = {
+        {1, 40, 0, 0, 0, 0}, {0, 30, -2, 4, 1, 3}, {1, 10, 50, 140, 0, 0}, {0, 9, 0, 0, 0, 0},
+        {0, 63, 0, 0, 0, 0}, {1, 10, 0, 0, 0, 0}, {0, 6, 1, 10, 0, 0}, {1, 10, 0, 3, 0, 0},
+        {0, 8, 0, 0, 0, 0}, {0, 0, 0, 0, 0, 0}, {1, 8, -160, 160, 0, 0}, {0, 20, 0, 3, 0, 0},
+        {1, 10, 0, 2, 0, 0}};
 
     public static void main(String[] args) {
         Random random = new Random(60617);
@@ -27,38 +37,47 @@ public final class AnyCallTest {
     }
 
     private static int[] drawn(Random r, int c) {
-        // Most runs first build, so that their later calls have something to work on.
-        int kind = c < 40 ? r.nextInt(3) : r.nextInt(13);
-        return new int[] {kind, number(r), number(r), number(r), r.nextInt()};
+        // The first calls build, so that the later ones have something to work on.
+        int kind = c < 8 ? 0 : c < 20 ? 1 : c < 30 ? 2 : LATER[r.nextInt(LATER.length)];
+        int[] call = {kind, wild(r), wild(r), wild(r), r.nextInt()};
+        for (int k = 0; k < 3; k++) {
+            int low = SENSIBLE[kind][2 * k];
+            int high = SENSIBLE[kind][2 * k + 1];
+            if (r.nextInt(40) != 0) {
+                call[1 + k] = low + r.nextInt(high - low + 1);
+            }
+        }
+        if (kind == 1 && r.nextInt(4) == 0) {
+            call[1] = 60 + r.nextInt(2);
+            call[2] = call[1] == 60 ? 0 : -1;
+            call[3] = 8;
+        }
+        return call;
     }
 
-    private static int number(Random r) {
-        switch (r.nextInt(12)) {
+    private static int wild(Random r) {
+        switch (r.nextInt(4)) {
             case 0:
                 return r.nextInt();
             case 1:
                 return r.nextBoolean() ? Integer.MIN_VALUE : Integer.MAX_VALUE;
             case 2:
                 return r.nextInt(1100);
-            case 3:
-            case 4:
-                return r.nextInt(130);
-            case 5:
-                return 58 + r.nextInt(6);
             default:
-                return r.nextInt(12) - 2;
+                return r.nextInt(80) - 8;
         }
     }
 
     private static int made(LinRows x, int[] c) {
         switch (c[0]) {
             case 0: return x.slave(c[1]);
-            case 1: return x.frame(c[1], c[2], c[1] == 60 || c[1] == 61 ? 8 : c[3], (c[4] & 1) != 0);
+            case 1: return x.frame(c[1], c[2], c[3], (c[4] & 1) != 0);
             case 2: return x.slot(c[1], c[2]);
             case 3: return x.run(c[1]);
             case 4: return x.parity(c[1]);
             case 5: return x.sum(c[1]);
-            case 6: return x.answer(c[1], c[2], (byte) c[4]);
+            // Few octets that differ, so that senders now agree and now collide, and addresses are met.
+            case 6: return x.answer(c[1], c[2], OCTETS[(c[4] >>> 1) % OCTETS.length]);
             case 7: return x.collision(c[1], c[2]);
             case 8: return x.wake(c[1]);
             case 9: return (c[4] & 7) == 0 ? x.sleep() : 0;

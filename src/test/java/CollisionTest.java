@@ -4,6 +4,7 @@ public final class CollisionTest {
         answers();
         tableIsSentInItsOrder();
         deafSlaveLeavesTheTable();
+        sendersAloneAreNewNoMore();
         tablesAreOfSlots();
         shortSlotIsNoCollision();
         sameOctetsAreNoCollision();
@@ -75,6 +76,26 @@ public final class CollisionTest {
         x.rate(1, 0);
         Check.due("1 is NEW still", 1, x.run(1));
         Check.dueHeld(x, 1, 1);
+        Check.dueErrors(x, 1);
+    }
+
+    private static void sendersAloneAreNewNoMore() {
+        LinRows x = withAnyFrame(3);
+        for (int n = 1; n <= 3; n++) {
+            Check.give(x, n, 1, n);
+        }
+        Check.due("run(1)", 0, x.run(1));
+        Check.due("1 sends", 1, x.run(1));
+        x.rate(2, 141);
+        x.rate(3, 141);
+        Check.due("2 and 3 are deaf", 0, x.run(2));
+        Check.dueTable(x, 1);
+        x.rate(2, 0);
+        Check.due("what 1 sent left 2 NEW", 1, x.run(1));
+        Check.dueHeld(x, 1, 2);
+        x.rate(3, 0);
+        Check.due("and 3", 1, x.run(2));
+        Check.dueHeld(x, 1, 3);
         Check.dueErrors(x, 1);
     }
 
