@@ -17,13 +17,17 @@ final class Check {
     }
 
     static void dueThrows(LinRows x, int frame, int i) {
-        int thrown = 0;
+        due("at(" + frame + ", " + i + ") throws", 1, thrownBy(x, frame, i));
+    }
+
+    /** 1 if at throws what the document names, 2 if something else, 0 if nothing. */
+    static int thrownBy(LinRows x, int frame, int i) {
         try {
             x.at(frame, i);
+            return 0;
         } catch (RuntimeException e) {
-            thrown = e.getClass() == ArrayIndexOutOfBoundsException.class ? 1 : 2;
+            return e.getClass() == ArrayIndexOutOfBoundsException.class ? 1 : 2;
         }
-        due("at(" + frame + ", " + i + ") throws", 1, thrown);
     }
 
     /** Gives a node a whole row of octets; answers what the last call of answer did. */
